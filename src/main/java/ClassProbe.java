@@ -595,16 +595,19 @@ public final class ClassProbe {
             }
         }
 
-        /** What is behind the last point or $, less the digits that only number a class in a method. */
+        /**
+         * What is behind the last point, $ or digit, for digits only number the classes that have them. It begins the
+         * row, which is emptied at each of these.
+         */
         private void addOwnName(String name) {
-            int from = 0;
             for (int i = 0; i < name.length(); i++) {
                 char c = name.charAt(i);
                 if (c == '.' || c == '$' || (c >= '0' && c <= '9')) {
-                    from = i + 1;
+                    row.setLength(0);
+                } else {
+                    row.append(c);
                 }
             }
-            row.append(name.substring(from));
         }
 
         private void addBrackets(int t) {
