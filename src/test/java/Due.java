@@ -1,13 +1,22 @@
 /** Counts the answers that are not the ones that are due, and tells of each. */
 final class Due {
+    private String sentence = "";
+    private int sentences = 0;
+    private int askedForSentence = 0;
     private int asked = 0;
     private int wrong = 0;
 
+    /** Names the sentence of the document that the answers from here on are asked for. */
+    void sentence(String words) {
+        endSentence();
+        sentence = words;
+        sentences++;
+    }
+
     void is(String call, long got, long want) {
-        asked++;
+        count();
         if (got != want) {
-            wrong++;
-            System.out.println(call + " answered " + got + ", due is " + want);
+            tell(call + " answered " + got + ", due is " + want);
         }
     }
 
@@ -16,18 +25,37 @@ final class Due {
     }
 
     void is(String call, String got, String want) {
-        asked++;
+        count();
         if (!got.equals(want)) {
-            wrong++;
-            System.out.println(call + " answered \"" + got + "\", due is \"" + want + "\"");
+            tell(call + " answered \"" + got + "\", due is \"" + want + "\"");
         }
     }
 
     /** Ends the test: with exit code 1 if an answer was wrong or none was asked for. */
     void end() {
-        System.out.println(asked + " answers, " + wrong + " of them not as due");
+        endSentence();
+        String of = sentences == 0 ? "" : " for " + sentences + " sentences";
+        System.out.println(asked + " answers" + of + ", " + wrong + " of them not as due");
         if (wrong != 0 || asked == 0) {
             System.exit(1);
         }
+    }
+
+    private void count() {
+        asked++;
+        askedForSentence++;
+    }
+
+    private void tell(String what) {
+        wrong++;
+        System.out.println(sentence.isEmpty() ? what : "\"" + sentence + "\": " + what);
+    }
+
+    /** A sentence that nothing was asked for would pass unseen. */
+    private void endSentence() {
+        if (sentences > 0 && askedForSentence == 0) {
+            tell("no answer was asked for");
+        }
+        askedForSentence = 0;
     }
 }

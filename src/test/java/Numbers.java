@@ -1,3 +1,5 @@
+import java.util.stream.IntStream;
+
 /** The numbers that several tests go through. */
 final class Numbers {
     /** No types: round the edges of the three ranges, the arrays of void, and far out. */
@@ -12,17 +14,35 @@ final class Numbers {
 
     /** All 73 types, as the document counts them. */
     static int[] allTypes() {
-        int[] all = new int[73];
-        int count = 0;
-        for (int t = 0; t <= 104; t++) {
-            boolean plain = t <= 24;
-            boolean array = t >= 40 && t <= 64 && t != 48;
-            boolean arrayOfArrays = t >= 80 && t != 88;
-            if (plain || array || arrayOfArrays) {
-                all[count++] = t;
-            }
-        }
-        return all;
+        return IntStream.rangeClosed(0, 104).filter(Numbers::isType).toArray();
+    }
+
+    /** Every number near the types that is none, and those far out that would be one if a digit or bit were lost. */
+    static int[] manyNoTypes() {
+        IntStream near = IntStream.rangeClosed(-300, 1300);
+        IntStream low = IntStream.rangeClosed(Integer.MIN_VALUE, Integer.MIN_VALUE + 110);
+        IntStream high = IntStream.rangeClosed(Integer.MAX_VALUE - 110, Integer.MAX_VALUE);
+        IntStream bits = IntStream.rangeClosed(11, 30).flatMap(bit -> IntStream.of(-1, 0, 4, 9, 14, 49, 104)
+            .flatMap(t -> IntStream.of(t + (1 << bit), t - (1 << bit))));
+        return IntStream.concat(IntStream.concat(near, low), IntStream.concat(bits, high))
+            .filter(t -> !isType(t)).toArray();
+    }
+
+    static boolean isType(int t) {
+        return within(t, 0, 24) || within(t, 40, 47) || within(t, 49, 64) || within(t, 80, 87) || within(t, 89, 104);
+    }
+
+    static boolean within(int n, int first, int last) {
+        return n >= first && n <= last;
+    }
+
+    /** Numbers just below and just above that range, and far from it. */
+    static int[] outside(int first, int last) {
+        return new int[] {
+            Integer.MIN_VALUE, Integer.MIN_VALUE + 1 + last, -65536 + first, -256 + first, first - 2, first - 1, last + 1,
+            last + 2, 2 * last + 2, 256 + first, 256 + last, 65536 + first, 65536 + last, Integer.MAX_VALUE - 1,
+            Integer.MAX_VALUE
+        };
     }
 
     static boolean isAmong(int n, int... some) {
