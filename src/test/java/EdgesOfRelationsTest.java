@@ -53,7 +53,7 @@ public final class EdgesOfRelationsTest {
     }
 
     private static void classesUp() {
-        DUE.sentence("Terms: THE CLASS UP of a type: of 9, 10, PRIMITIVE types and interfaces none; of 14 .. and of 16 .. OTHER");
+        DUE.sentence("Terms: THE CLASS UP of a type: of 9, 10, PRIMITIVE types and interfaces none");
         int[][] due = {
             {0, NULL}, {8, NULL}, {9, NULL}, {10, NULL}, {11, 9}, {12, NULL}, {13, NULL}, {14, OTHER}, {15, 9},
             {16, OTHER}, {17, 16}, {18, 9}, {19, 9}, {20, NULL}, {21, 9}, {22, 21}, {23, 22}, {24, 9}, {40, 9}, {47, 9},
@@ -181,7 +181,7 @@ public final class EdgesOfRelationsTest {
     }
 
     private static void arraysIntoArrays() {
-        DUE.sentence("Terms: GOES INTO .. if both are arrays, of types that are not PRIMITIVE, and that of u GOES INTO that of t");
+        DUE.sentence("Terms: GOES INTO .. if both are arrays, of types that are not PRIMITIVE, and that of u GOES INTO");
         int[][] into = {
             {54, 53}, {55, 52}, {57, 56}, {63, 61}, {63, 52}, {64, 50}, {50, 49}, {64, 49}, {80, 49}, {87, 49},
             {104, 49}, {94, 93}, {103, 101}, {104, 90}, {104, 89}, {89, 49}

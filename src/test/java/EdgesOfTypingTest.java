@@ -152,7 +152,7 @@ public final class EdgesOfTypingTest {
     }
 
     private static void everyByteInEveryPlace() {
-        DUE.sentence("12: are typed one after another; at the first that is REFUSED .. this stops, those before it stay");
+        DUE.sentence("12: typed one after another; at the first that is REFUSED .. this stops, those before it stay");
         for (int place = 0; place < 8; place++) {
             int shift = 56 - 8 * place;
             for (int c = 0; c <= 255; c++) {

@@ -36,13 +36,16 @@ final class Numbers {
         return n >= first && n <= last;
     }
 
-    /** Numbers just below and just above that range, and far from it. */
+    /** Numbers just below and just above that range, and those far out that would be in it if bits were lost. */
     static int[] outside(int first, int last) {
-        return new int[] {
-            Integer.MIN_VALUE, Integer.MIN_VALUE + 1 + last, -65536 + first, -256 + first, first - 2, first - 1, last + 1,
-            last + 2, 2 * last + 2, 256 + first, 256 + last, 65536 + first, 65536 + last, Integer.MAX_VALUE - 1,
-            Integer.MAX_VALUE
-        };
+        IntStream below = IntStream.rangeClosed(first - 20, first - 1);
+        IntStream above = IntStream.rangeClosed(last + 1, last + 20);
+        IntStream far = IntStream.of(8, 16, 24, 30)
+            .flatMap(bit -> IntStream.of(first + (1 << bit), last + (1 << bit), first - (1 << bit), last - (1 << bit)));
+        IntStream ends = IntStream.of(Integer.MIN_VALUE, Integer.MIN_VALUE + first, Integer.MIN_VALUE + last,
+            Integer.MAX_VALUE - 1, Integer.MAX_VALUE);
+        return IntStream.concat(IntStream.concat(below, above), IntStream.concat(far, ends))
+            .filter(n -> !within(n, first, last)).distinct().toArray();
     }
 
     static boolean isAmong(int n, int... some) {
