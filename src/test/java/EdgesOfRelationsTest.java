@@ -181,7 +181,7 @@ public final class EdgesOfRelationsTest {
     }
 
     private static void arraysIntoArrays() {
-        DUE.sentence("Terms: GOES INTO .. if both are arrays, of types that are not PRIMITIVE, and that of u GOES INTO");
+        DUE.sentence("Terms: GOES INTO .. if both are arrays, of types that are not PRIMITIVE, and that of u ..");
         int[][] into = {
             {54, 53}, {55, 52}, {57, 56}, {63, 61}, {63, 52}, {64, 50}, {50, 49}, {64, 49}, {80, 49}, {87, 49},
             {104, 49}, {94, 93}, {103, 101}, {104, 90}, {104, 89}, {89, 49}
