@@ -125,6 +125,9 @@ public final class ClassObjectsTest {
         List<String> all = new ArrayList<>(List.of("", "[", "[[", "[V", "[L", "[L;", "[;", "[LI;", "I", "[II",
             "ClassProbe$", "ClassProbe$2", "ClassProbe$Mark;", "ClassProbe$Deep", "ClassProbe$Inner.Deep",
             "ClassProbe.Mark", "java.lang.String", "java/lang/Object", "[Ljava/lang/Object;", "[[[[[[[[[[[[[[[[I"));
+        for (char c = 33; c <= 126; c++) {
+            all.add("[" + c);
+        }
         ClassObjects real = new ClassObjects();
         for (int t : Numbers.allTypes()) {
             StringBuilder name = new StringBuilder();

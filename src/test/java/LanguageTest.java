@@ -86,6 +86,7 @@ public final class LanguageTest {
         }
     }
 
+    /** The rule leaves rows written out and enums as well; the class has none of them. */
     private static void staticFields() throws IOException {
         DUE.sentence("5: Static fields are final: constants of int, long, boolean, char or String, ..; no static ..");
         for (Class<?> one : allClasses()) {
